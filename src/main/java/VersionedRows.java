@@ -46,6 +46,9 @@ public final class VersionedRows {
     private static final int LETTERS_SQUARED = 729;
     private static final int LAST_NAME = 19682;
 
+    private static final int LEAST_INT = -2147483648;
+    private static final int GREATEST_INT = 2147483647;
+
     /** Far above the rounds that a flush can need: each takes a file off level 0 or level 1. */
     private static final int ROUND_LIMIT = 1000000;
 
@@ -442,7 +445,7 @@ public final class VersionedRows {
         planRange = null;
         for (int i = 0; i < indexCount; i++) {
             Range range = new Range(indexes[i]);
-            range.hear(asked);
+            Range.tellConjuncts(asked, range);
             if (range.isSaid && (planRange == null || range.width() < planRange.width())) {
                 planIndex = i;
                 planRange = range;
@@ -577,8 +580,8 @@ public final class VersionedRows {
     /** What the conjuncts of a query say of the values of an index: longs, as c - 1 and c + 1 may be no ints. */
     private static final class Range {
         private final Expression subject;
-        private long low = Integer.MIN_VALUE;
-        private long high = Integer.MAX_VALUE;
+        private long low = LEAST_INT;
+        private long high = GREATEST_INT;
         private boolean isSaid;
 
         private Range(Expression subject) {
@@ -589,20 +592,20 @@ public final class VersionedRows {
             return high - low;
         }
 
-        private void hear(Expression e) {
+        private static void tellConjuncts(Expression e, Range range) {
             if (e == null) {
                 return;
             }
             if (e.op == OP_AND) {
-                hear(e.first);
-                hear(e.second);
+                tellConjuncts(e.first, range);
+                tellConjuncts(e.second, range);
             } else if (e.op == OP_LESS || e.op == OP_SAME) {
-                hearComparison(e.op == OP_SAME, e.first, e.second);
+                range.hear(e.op == OP_SAME, e.first, e.second);
             }
         }
 
         /** Both forms are looked for: an index that is a CONST itself may stand on either side. */
-        private void hearComparison(boolean same, Expression first, Expression second) {
+        private void hear(boolean same, Expression first, Expression second) {
             if (first == null || second == null) {
                 return;
             }
@@ -667,7 +670,7 @@ public final class VersionedRows {
 
         /** Space, value and key as one number of the same order. */
         private static long placeOf(int space, int value, int key) {
-            return ((long) space << 37) + (((long) value - Integer.MIN_VALUE) << 5) + key;
+            return ((long) space << 37) + (((long) value - LEAST_INT) << 5) + key;
         }
 
         private boolean isBefore(long otherPlace, int otherStamp) {
@@ -815,7 +818,7 @@ public final class VersionedRows {
         }
 
         private int lastStampOf(int key) {
-            Entry latest = seenRow(key, Integer.MAX_VALUE);
+            Entry latest = seenRow(key, GREATEST_INT);
             return latest == null ? 0 : latest.stamp;
         }
 
